@@ -203,7 +203,7 @@ public final class WeightedClauses {
         }
 
         int withoutValue(int k, int have) {
-            return variablesOf(k) & ~have;
+            return (makesTrue[k] | makesFalse[k]) & ~have;
         }
 
         int literalsSayingTrue(int k) {
@@ -215,7 +215,9 @@ public final class WeightedClauses {
         }
 
         boolean isFalse(int k, int have, int values) {
-            return withoutValue(k, have) == 0 && !isTrue(k, have, values);
+            int used = makesTrue[k] | makesFalse[k];
+            // Just those of its variables are true then whose literals say false.
+            return (used & ~have) == 0 && (used & values) == makesFalse[k];
         }
 
         boolean isOpen(int k, int have, int values) {
