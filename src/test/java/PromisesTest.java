@@ -37,32 +37,16 @@ public final class PromisesTest {
     }
 
     private static void soft(WeightedClauses x, int weight, int... literals) {
-        int[] four = {-1, -1, -1, -1};
-        System.arraycopy(literals, 0, four, 0, literals.length);
-        x.clause(weight, four[0], four[1], four[2], four[3]);
+        Examples.add(x, weight, literals);
     }
 
     private static void hard(WeightedClauses x, int... literals) {
         soft(x, 0, literals);
     }
 
-    /** Cost 4 whatever x0 is; the state with x0 false is given up, as its bound is no better. */
     private static WeightedClauses solvedOne() {
-        WeightedClauses x = new WeightedClauses(2);
-        soft(x, 4, 0);
-        soft(x, 4, 1);
-        soft(x, 1, 2);
+        WeightedClauses x = Examples.twoVariables();
         x.solve();
-        return x;
-    }
-
-    /** With x0 true the hard clauses contradict each other, and no best one is there yet. */
-    private static WeightedClauses hopelessBranch() {
-        WeightedClauses x = new WeightedClauses(2);
-        hard(x, 1, 2);
-        hard(x, 1, 3);
-        soft(x, 7, 0);
-        soft(x, 1, 0, 2);
         return x;
     }
 
@@ -371,7 +355,7 @@ public final class PromisesTest {
         due("P11 none", x.solve(), -2L);
         x.drop();
         due("P11 one again", x.solve(), 5L);
-        due("P11 a hopeless branch first", hopelessBranch().solve(), 7L);
+        due("P11 a hopeless branch first", Examples.hopelessBranch().solve(), 7L);
     }
 
     private static void promise11BigCosts() {
@@ -385,7 +369,7 @@ public final class PromisesTest {
     }
 
     private static void promise12Value() {
-        WeightedClauses x = hopelessBranch();
+        WeightedClauses x = Examples.hopelessBranch();
         due("P12 no search", x.value(0), -1);
         x.solve();
         due("P12 false", x.value(0), 0);
@@ -425,7 +409,7 @@ public final class PromisesTest {
     }
 
     private static void promise14Logged() {
-        WeightedClauses x = hopelessBranch();
+        WeightedClauses x = Examples.hopelessBranch();
         due("P14 no search", x.logged(), 0);
         x.solve();
         due("P14 one", x.logged(), 1);
@@ -448,7 +432,7 @@ public final class PromisesTest {
     }
 
     private static void promise15Log() {
-        WeightedClauses x = hopelessBranch();
+        WeightedClauses x = Examples.hopelessBranch();
         due("P15 no search", x.log(0, 0), -1);
         x.solve();
         due("P15 have", x.log(0, 0), 1);
@@ -469,7 +453,7 @@ public final class PromisesTest {
     }
 
     private static void promise16Best() {
-        WeightedClauses x = hopelessBranch();
+        WeightedClauses x = Examples.hopelessBranch();
         due("P16 no search", x.best(0), -1);
         x.solve();
         due("P16 no best one then", x.best(0), -1);
