@@ -220,14 +220,10 @@ public final class WeightedClauses {
             return (used & ~have) == 0 && (used & values) == makesFalse[k];
         }
 
-        boolean isOpen(int k, int have, int values) {
-            return withoutValue(k, have) != 0 && !isTrue(k, have, values);
-        }
-
         long openClauses(int have, int values) {
             long open = 0;
             for (int k = 0; k < clauseCount; k++) {
-                if (isOpen(k, have, values)) {
+                if (withoutValue(k, have) != 0 && !isTrue(k, have, values)) {
                     open |= 1L << k;
                 }
             }
